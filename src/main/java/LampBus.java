@@ -8,12 +8,12 @@ public final class LampBus {
     private static final int MOST_GEARS = 16;
     private static final int MOST_TICKS = 2000;
     private static final int LAST_SHORT = 63;
+    // Out of reach with sixteen gears, but it bounds the loop whatever they answer.
     private static final int MOST_GIVEN = 20;
 
     private static final int YES = 255;
     private static final int UNSET = 255;
     private static final int ALL_24_BITS = 0xFFFFFF;
-    private static final int HIGHEST_OF_24_BITS = 0x800000;
 
     private static final int FIRST_GROUP_ADDRESS = 0x80;
     private static final int FIRST_SPECIAL = 0xA0;
@@ -106,8 +106,8 @@ public final class LampBus {
         sendSpecial(RANDOMISE, 0);
         sendSpecial(RANDOMISE, 0);
         int given = 0;
-        while (given < MOST_GIVEN && first + given <= LAST_SHORT && isAnyWithin(ALL_24_BITS)) {
-            sendSearch(leastRandom());
+        while (given < MOST_GIVEN && first + given <= LAST_SHORT && isAnyLeft()) {
+            searchLeastRandom();
             sendSpecial(PROGRAM_SHORT, 2 * (first + given) + 1);
             sendSpecial(WITHDRAW, 0);
             given++;
@@ -186,20 +186,27 @@ public final class LampBus {
         sendSpecial(SEARCH_LOW, search & 255);
     }
 
-    private boolean isAnyWithin(int search) {
-        sendSearch(search);
+    private boolean isAnyWithinSearch() {
         compareCount++;
         return sendSpecial(COMPARE, 0) != NONE;
     }
 
-    private int leastRandom() {
+    private boolean isAnyLeft() {
+        sendSearch(ALL_24_BITS);
+        return isAnyWithinSearch();
+    }
+
+    private void searchLeastRandom() {
         int search = ALL_24_BITS;
-        for (int bit = HIGHEST_OF_24_BITS; bit > 0; bit >>= 1) {
-            if (isAnyWithin(search - bit)) {
-                search -= bit;
+        for (int bit = 23; bit >= 0; bit--) {
+            int without = search - (1 << bit);
+            sendSearch(without);
+            if (isAnyWithinSearch()) {
+                search = without;
             }
         }
-        return search;
+        // The last number that was tried may be one below the one that was found.
+        sendSearch(search);
     }
 
     /** The light of a gear: its level, the bounds of it, and the fade that may be under way. */
@@ -224,10 +231,6 @@ public final class LampBus {
         private int ticksPassed;
         // Kept from the fade's begin on, as FADE may be set anew meanwhile; 0 without a fade.
         private int ticksInAll;
-
-        private Lamp() {
-            reset();
-        }
 
         private void reset() {
             level = HIGHEST_LEVEL;
@@ -529,18 +532,14 @@ public final class LampBus {
             }
         }
 
-        private static boolean codesShort(int code) {
-            return (code & 1) == 1 && code < 0x80;
-        }
-
         private boolean isShortOf(int code) {
-            return codesShort(code) && shortAddress == (code - 1) / 2;
+            return shortAddress != UNSET && code == 2 * shortAddress + 1;
         }
 
         private void takeShort(int code) {
             if (code == UNSET) {
                 shortAddress = UNSET;
-            } else if (codesShort(code)) {
+            } else if ((code & 1) == 1 && code < 0x80) {
                 shortAddress = (code - 1) / 2;
             }
         }

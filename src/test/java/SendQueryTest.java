@@ -14,6 +14,8 @@ public final class SendQueryTest {
         Check.due("dark, without address", bus.send(0xFF, 0x90), 64);
         bus.commission(9);
         Check.due("dark, with address", bus.send(19, 0x90), 0);
+        bus.send(0xFF, 6);
+        Check.due("lit at level 1, with address", bus.send(19, 0x90), 4);
         bus.send(0xFF, 5);
         Check.due("lit, with address", bus.send(19, 0x90), 4);
         Check.set(bus, 0xFF, 0x2E, 2);
